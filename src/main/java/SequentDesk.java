@@ -620,7 +620,7 @@ public final class SequentDesk {
 
         /** Makes all equations true; false if two different kinds would have to be one. */
         private boolean solve() {
-            for (int e = 0; e < equations; e++) {
+            for (int e = 0; e < equations && e < EQUATIONS; e++) {
                 int a = root(lefts[e]);
                 int b = root(rights[e]);
                 if (a == b) continue;

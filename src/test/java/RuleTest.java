@@ -369,9 +369,13 @@ public final class RuleTest {
             check.due("so many HYPOTHESES", x.theorem(p, 1), i + 1);
         }
         int more = x.rule(ASSUME, Check.read(x, EQ, 5, 7), 0, 0);
+        int truth = x.rule(ASSUME, Check.read(x, EQ, EQ, 4, 5, EQ, 6, 6), 0, 0);
+        int function = x.rule(ASSUME, Check.read(x, EQ, L + 4, 4, L + 4, 5), 0, 0);
         String before = Check.counts(x);
         check.due("seven HYPOTHESES", x.rule(TRANS, p, more, 0), -5);
         check.due("seven HYPOTHESES of DEDUCT", x.rule(DEDUCT, p, more, 0), -5);
+        check.due("seven HYPOTHESES of EQMP", x.rule(EQMP, truth, p, 0), -5);
+        check.due("seven HYPOTHESES of COMB", x.rule(COMB, function, p, 0), -5);
         check.same("nothing has changed", Check.counts(x), before);
         int old = x.rule(ASSUME, Check.read(x, EQ, 5, 6), 0, 0);
         check.due("one of the six", x.theorem(x.rule(TRANS, p, old, 0), 1), 6);
