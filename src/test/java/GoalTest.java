@@ -20,6 +20,7 @@ public final class GoalTest {
         fullTerms();
         undoes();
         repeats();
+        repeatsNames();
         repeatsFull();
         opens();
         closes();
@@ -386,6 +387,21 @@ public final class GoalTest {
         SequentDesk no = aim(EQ, L + 7, APP, 2, 0, L + 7, APP, 2, 1);
         check.due("ABS of what is not in the bodies", no.repeat(1), 1);
         wants("no variable is left", no, 0, 0, EQ, APP, 2, 0, APP, 2, 1);
+    }
+
+    /** One NAME alone, or two, have the TYPE of the variables. */
+    private static void repeatsNames() {
+        for (int v = 0; v < 8; v++) {
+            for (int w = v; w < 8; w++) {
+                SequentDesk x = new SequentDesk();
+                x.declare(v, 48);
+                x.declare(w, 48);
+                // The variable is used on TRUTHS, and gives TRUTHS.
+                x.goal(Check.read(x, EQ, L, EQ, APP, 0, EQ, L, 0, L, 0, EQ, L, 0, L, 0, L, EQ, L, 0, L, 0));
+                check.due("repeat with " + v + " and " + w, x.repeat(1), 1);
+                check.due("the least NAME that goes", x.term(x.open(0, 0), 2), 1 << v);
+            }
+        }
     }
 
     /** With 64 TERMS, ABS goes with the least NAME whose TERM is there. */

@@ -240,6 +240,7 @@ public final class TermTest {
         check.due("SYMBOL what -1", x.symbol(t, 0, -1), -1);
         check.due("SYMBOL of TERM 1", x.symbol(1, 0, 0), -1);
         check.due("a NAME is 1 deep", x.term(Check.read(x, 0), 3), 1);
+        check.due("a NAME has itself", x.term(Check.read(x, 3), 2), 8);
         check.due("a LAM is 2 deep", x.term(Check.read(x, L, 0), 3), 2);
         check.due("a variable is no NAME", x.term(Check.read(x, L + 4, 4), 2), 0);
         int[] longest = new int[24];
