@@ -1,13 +1,40 @@
 /** Counts the answers that are not the ones that are due, and says so when the test ends. */
 final class Check {
+    private static final int MOST_SECONDS = 300;
     private int asked = 0;
     private int wrong = 0;
+
+    /** No call may fail to end: a test that has not ended by far has failed. */
+    Check() {
+        Thread watch = new Thread(Check::watch);
+        watch.setDaemon(true);
+        watch.start();
+    }
+
+    private static void watch() {
+        try {
+            Thread.sleep(MOST_SECONDS * 1000L);
+        } catch (InterruptedException interrupted) {
+            return;
+        }
+        System.out.println("the test has not ended after " + MOST_SECONDS + " seconds");
+        Runtime.getRuntime().halt(1);
+    }
 
     void due(String call, long got, long want) {
         asked++;
         if (got != want) {
             wrong++;
             System.out.println(call + " answered " + got + ", due is " + want);
+        }
+    }
+
+    /** For very many looks: the text of the call is made only if the answer is wrong. */
+    void due(String name, long got, long want, int run, int a, int b, int c) {
+        asked++;
+        if (got != want) {
+            wrong++;
+            System.out.println("run " + run + ": " + name + " " + a + " " + b + " " + c + " answered " + got + ", due is " + want);
         }
     }
 
@@ -20,14 +47,14 @@ final class Check {
     }
 
     /** Puts tokens into an empty draft and reads it. */
-    static int read(SequentDesk x, int... tokens) {
+    static int read(Desk x, int... tokens) {
         x.clear();
         for (int t : tokens) x.token(t);
         return x.read();
     }
 
     /** How many there are of each, in one text, to see that nothing has changed. */
-    static String counts(SequentDesk x) {
+    static String counts(Desk x) {
         return x.count(0) + " " + x.count(1) + " " + x.count(2) + " " + x.count(3) + " " + x.count(4);
     }
 

@@ -31,8 +31,8 @@ public final class GoalTest {
     }
 
     /** 0, 1 of TRUTHS, 2 from TRUTHS to TRUTHS, 3 from THINGS to THINGS, the others THINGS. */
-    private static SequentDesk desk() {
-        SequentDesk x = new SequentDesk();
+    private static Desk desk() {
+        Desk x = new Desk();
         x.declare(0, 4);
         x.declare(1, 4);
         x.declare(2, 48);
@@ -41,14 +41,14 @@ public final class GoalTest {
     }
 
     /** A new desk with a draft as the GOAL. */
-    private static SequentDesk aim(int... draft) {
-        SequentDesk x = desk();
+    private static Desk aim(int... draft) {
+        Desk x = desk();
         x.goal(Check.read(x, draft));
         return x;
     }
 
     /** The k-th open GOAL is what a draft would be read as, and has so many HYPOTHESES. */
-    private static void wants(String what, SequentDesk x, int k, int hypotheses, int... draft) {
+    private static void wants(String what, Desk x, int k, int hypotheses, int... draft) {
         int made = x.count(0);
         check.due(what, x.open(k, 0), Check.read(x, draft));
         check.due(what + " was there already", x.count(0), made);
@@ -57,7 +57,7 @@ public final class GoalTest {
     }
 
     private static void goals() {
-        SequentDesk x = desk();
+        Desk x = desk();
         int t = Check.read(x, EQ, 4, 5), a = Check.read(x, 0), thing = Check.read(x, 4);
         check.due("goal of a TERM that is not there", x.goal(3), -1);
         check.due("goal(-1)", x.goal(-1), -1);
@@ -76,7 +76,7 @@ public final class GoalTest {
     }
 
     private static void numbers() {
-        SequentDesk x = aim(EQ, 4, 5);
+        Desk x = aim(EQ, 4, 5);
         x.rule(REFL, 0, 0, 0);
         String before = Check.counts(x);
         check.due("kind -1", x.tactic(-1, 0), -1);
@@ -90,7 +90,7 @@ public final class GoalTest {
         check.due("EXACT without a THEOREM", x.tactic(EXACT, 1), -1);
         check.due("EXACT -1", x.tactic(EXACT, -1), -1);
         check.same("nothing has changed", Check.counts(x), before);
-        SequentDesk y = aim(EQ, 4, 4);
+        Desk y = aim(EQ, 4, 4);
         check.due("REFL does not look at x", y.tactic(REFL, -77), 0);
         check.due("none is open then", y.tactic(REFL, 0), -1);
         check.due("none is open for TRANS", y.tactic(TRANS, 0), -1);
@@ -103,17 +103,17 @@ public final class GoalTest {
         check.due("REFL of no EQ", aim(APP, 2, 0).tactic(REFL, 0), -4);
         check.due("REFL of a NAME", aim(0).tactic(REFL, 0), -4);
         check.due("ASSUME without HYPOTHESES", aim(0).tactic(ASSUME, 0), -4);
-        SequentDesk x = aim(EQ, 0, 0);
+        Desk x = aim(EQ, 0, 0);
         check.due("DEDUCT", x.tactic(DEDUCT, 0), 2);
         check.due("ASSUME", x.tactic(ASSUME, -5), 1);
         check.due("ASSUME", x.tactic(ASSUME, 99), 0);
-        SequentDesk y = aim(EQ, 0, 1);
+        Desk y = aim(EQ, 0, 1);
         y.tactic(DEDUCT, 0);
         check.due("not in H", y.tactic(ASSUME, 0), -4);
     }
 
     private static void trans() {
-        SequentDesk x = aim(EQ, 4, 5);
+        Desk x = aim(EQ, 4, 5);
         int t = Check.read(x, APP, 3, 6);
         check.due("TRANS", x.tactic(TRANS, t), 2);
         check.due("the first new TERM", x.open(0, 0), 2);
@@ -126,7 +126,7 @@ public final class GoalTest {
     }
 
     private static void comb() {
-        SequentDesk x = aim(EQ, APP, 3, 4, APP, L + 4, 4, 5);
+        Desk x = aim(EQ, APP, 3, 4, APP, L + 4, 4, 5);
         check.due("COMB", x.tactic(COMB, -1), 2);
         check.due("the first new TERM", x.open(0, 0), 1);
         wants("the functions", x, 0, 0, EQ, 3, L + 4, 4);
@@ -139,7 +139,7 @@ public final class GoalTest {
     }
 
     private static void abs() {
-        SequentDesk x = aim(EQ, L + 4, L + 5, EQ, 4, 5, L + 4, L + 5, EQ, 5, 6);
+        Desk x = aim(EQ, L + 4, L + 5, EQ, 4, 5, L + 4, L + 5, EQ, 5, 6);
         check.due("a NAME in it", x.tactic(ABS, 6), -4);
         check.due("a NAME of another TYPE", x.tactic(ABS, 0), -4);
         check.due("ABS", x.tactic(ABS, 7), 1);
@@ -152,10 +152,10 @@ public final class GoalTest {
         check.due("one LAM", aim(EQ, L + 4, 4, 3).tactic(ABS, 4), -4);
         check.due("the other LAM", aim(EQ, 3, L + 4, 4).tactic(ABS, 4), -4);
         check.due("no EQ", aim(APP, L + 4, 0, 5).tactic(ABS, 4), -4);
-        SequentDesk y = aim(EQ, EQ, L + 4, 4, 3, EQ, L + 4, 4, L + 4, 5);
+        Desk y = aim(EQ, EQ, L + 4, 4, 3, EQ, L + 4, 4, L + 4, 5);
         check.due("DEDUCT", y.tactic(DEDUCT, 0), 2);
         check.due("not two LAMs", y.tactic(ABS, 4), -4);
-        SequentDesk z = aim(EQ, EQ, L + 4, 4, L + 4, 5, EQ, 6, 7);
+        Desk z = aim(EQ, EQ, L + 4, 4, L + 4, 5, EQ, 6, 7);
         check.due("DEDUCT puts EQ 6 7 before EQ of LAMs", z.tactic(DEDUCT, 0), 2);
         check.due("a NAME in it", z.tactic(ABS, 5), -4);
         check.due("a NAME in H", z.tactic(ABS, 6), -4);
@@ -177,13 +177,13 @@ public final class GoalTest {
             APP, 3, APP, 3, APP, 3, APP, 3, 5, 0).tactic(BETA, 0), -4);
         // The right side has the same SYMBOLS, but its LAM is on THINGS, not on TRUTHS.
         check.due("other TYPES", aim(EQ, APP, L + 4, APP, L + 5, 4, 0, 0, APP, L + 5, 0, 7).tactic(BETA, 0), -4);
-        SequentDesk x = aim(EQ, APP, L + 4, APP, 3, 4, 5, APP, 3, 5);
+        Desk x = aim(EQ, APP, L + 4, APP, 3, 4, 5, APP, 3, 5);
         x.tactic(BETA, 0);
         check.due("no TERM is made", x.count(0), 1);
     }
 
     private static void eqmp() {
-        SequentDesk x = aim(APP, 2, 0);
+        Desk x = aim(APP, 2, 0);
         int t = Check.read(x, 1), thing = Check.read(x, 4);
         check.due("of THINGS", x.tactic(EQMP, thing), -4);
         check.due("EQMP", x.tactic(EQMP, t), 2);
@@ -193,7 +193,7 @@ public final class GoalTest {
     }
 
     private static void deduct() {
-        SequentDesk x = aim(EQ, APP, 2, 0, 1);
+        Desk x = aim(EQ, APP, 2, 0, 1);
         check.due("DEDUCT", x.tactic(DEDUCT, 55), 2);
         check.due("the HYPOTHESIS is made first", x.open(0, 2), 1);
         check.due("then its TERM", x.open(0, 0), 2);
@@ -204,7 +204,7 @@ public final class GoalTest {
         check.due("EQ of THINGS", aim(EQ, 4, 5).tactic(DEDUCT, 0), -4);
         check.due("EQ of FUNCTIONS", aim(EQ, 2, 2).tactic(DEDUCT, 0), -4);
         check.due("no EQ", aim(0).tactic(DEDUCT, 0), -4);
-        SequentDesk y = aim(EQ, EQ, 0, 1, 0);
+        Desk y = aim(EQ, EQ, 0, 1, 0);
         y.tactic(DEDUCT, 0);
         check.due("DEDUCT with 0 in H", y.tactic(DEDUCT, 0), 3);
         wants("H + 1, 0", y, 0, 2, 0);
@@ -214,7 +214,7 @@ public final class GoalTest {
     }
 
     private static void exact() {
-        SequentDesk x = desk();
+        Desk x = desk();
         int eq = Check.read(x, EQ, 0, 1), a = Check.read(x, 0), b = Check.read(x, 1);
         int p = x.rule(ASSUME, eq, 0, 0), q = x.rule(ASSUME, a, 0, 0);
         int r = x.rule(EQMP, p, q, 0);
@@ -234,23 +234,23 @@ public final class GoalTest {
     }
 
     private static void bigTactics() {
-        SequentDesk x = aim(EQ, APP, 3, APP, 3, APP, 3, APP, 3, APP, 3, 4, 5);
+        Desk x = aim(EQ, APP, 3, APP, 3, APP, 3, APP, 3, APP, 3, 4, 5);
         int twelve = Check.read(x, APP, L, APP, 3, APP, 3, 0, APP, 3, APP, 3, 4);
         int thirteen = Check.read(x, APP, 3, APP, 3, APP, 3, APP, 3, APP, 3, APP, 3, 4);
         String before = Check.counts(x);
         check.due("25 SYMBOLS", x.tactic(TRANS, thirteen), -5);
         check.same("nothing has changed", Check.counts(x), before);
         check.due("24 SYMBOLS", x.tactic(TRANS, twelve), 2);
-        SequentDesk y = aim(EQ, 5, APP, 3, APP, 3, APP, 3, APP, 3, APP, 3, 4);
+        Desk y = aim(EQ, 5, APP, 3, APP, 3, APP, 3, APP, 3, APP, 3, 4);
         int other = Check.read(y, APP, 3, APP, 3, APP, 3, APP, 3, APP, 3, APP, 3, 4);
         check.due("the second GOAL has 25", y.tactic(TRANS, other), -5);
         check.due("the TERM of the first one is not made", y.count(0), 2);
-        SequentDesk z = aim(EQ, 4, APP, 3, APP, 3, APP, 3, APP, 3, 4);
+        Desk z = aim(EQ, 4, APP, 3, APP, 3, APP, 3, APP, 3, 4);
         int eq13 = Check.read(z, EQ, APP, 3, 4, APP, 3, APP, 3, APP, 3, APP, 3, 4);
         int eq11 = Check.read(z, EQ, 5, APP, 3, APP, 3, APP, 3, APP, 3, 4);
         check.due("EQMP of 25", z.tactic(EQMP, eq13), -5);
         check.due("EQMP of 23", z.tactic(EQMP, eq11), 2);
-        SequentDesk w = desk();
+        Desk w = desk();
         int[][] drafts = {{EQ, 0, 0}, {EQ, 0, 1}, {EQ, 1, 0}, {EQ, 1, 1}, {0}, {1}, {APP, 2, 0}, {APP, 2, 1}};
         int[] ts = new int[8];
         for (int k = 0; k < 8; k++) ts[k] = Check.read(w, drafts[k]);
@@ -268,7 +268,7 @@ public final class GoalTest {
     }
 
     private static void fullGoals() {
-        SequentDesk x = aim(EQ, L + 4, 4, L + 4, 4);
+        Desk x = aim(EQ, L + 4, 4, L + 4, 4);
         int t = Check.read(x, L + 4, 4);
         for (int i = 1; i <= 14; i++) check.due("TRANS " + i, x.tactic(TRANS, t), i + 1);
         check.due("29 GOALS", x.count(2), 29);
@@ -286,7 +286,7 @@ public final class GoalTest {
     }
 
     private static void fullTerms() {
-        SequentDesk x = new SequentDesk();
+        Desk x = new Desk();
         x.declare(0, 53);
         int aim = Check.read(x, EQ, 1, 2);
         for (int i = 0; x.count(0) < 49; i++) Check.read(x, EQ, 1 + i / 7, 1 + i % 7);
@@ -316,7 +316,7 @@ public final class GoalTest {
     }
 
     private static void undoes() {
-        SequentDesk x = aim(EQ, APP, 3, 4, APP, 3, 5);
+        Desk x = aim(EQ, APP, 3, 4, APP, 3, 5);
         check.due("undo without TACTICS", x.undo(), -1);
         x.tactic(COMB, 0);
         x.tactic(REFL, 0);
@@ -333,16 +333,16 @@ public final class GoalTest {
         x.tactic(COMB, 0);
         check.due("a TACTIC that is refused is none", x.tactic(ASSUME, 0), -4);
         check.due("undo of COMB again", x.undo(), 1);
-        SequentDesk y = aim(EQ, 4, 4);
+        Desk y = aim(EQ, 4, 4);
         y.tactic(REFL, 0);
         check.due("undo of the last TACTIC", y.undo(), 1);
         y.tactic(REFL, 0);
         check.due("close", y.close(), 0);
         check.due("undo after close", y.undo(), -1);
-        SequentDesk z = aim(EQ, APP, 3, 4, APP, 3, 4);
+        Desk z = aim(EQ, APP, 3, 4, APP, 3, 4);
         check.due("repeat(8)", z.repeat(8), 1);
         check.due("undo of a TACTIC of repeat", z.undo(), 1);
-        SequentDesk w = aim(EQ, APP, 3, 4, APP, 3, 5);
+        Desk w = aim(EQ, APP, 3, 4, APP, 3, 5);
         check.due("repeat does two", w.repeat(8), 2);
         check.due("undo takes back one of them", w.undo(), 2);
         check.due("and the other", w.undo(), 1);
@@ -350,7 +350,7 @@ public final class GoalTest {
     }
 
     private static void repeats() {
-        SequentDesk x = aim(EQ, L + 4, APP, 3, 4, L + 4, APP, 3, 5);
+        Desk x = aim(EQ, L + 4, APP, 3, 4, L + 4, APP, 3, 5);
         check.due("repeat(0)", x.repeat(0), -1);
         check.due("repeat(9)", x.repeat(9), -1);
         check.due("repeat(-1)", x.repeat(-1), -1);
@@ -359,32 +359,32 @@ public final class GoalTest {
         check.due("twice", x.repeat(2), 2);
         wants("COMB and REFL", x, 0, 0, EQ, 4, 5);
         check.due("none goes", x.repeat(8), 0);
-        SequentDesk y = aim(EQ, L + 7, EQ, 7, 4, L + 7, EQ, 7, 4);
+        Desk y = aim(EQ, L + 7, EQ, 7, 4, L + 7, EQ, 7, 4);
         check.due("REFL goes before ABS", y.repeat(8), 1);
         check.due("none is open", y.repeat(8), 0);
-        SequentDesk z = aim(EQ, APP, L + 4, 4, 5, APP, L + 4, 4, 5);
+        Desk z = aim(EQ, APP, L + 4, 4, 5, APP, L + 4, 4, 5);
         z.repeat(1);
         check.due("REFL goes before COMB", z.count(3), 0);
-        SequentDesk b = aim(EQ, APP, L + 4, APP, 3, 4, 5, APP, 3, 5);
+        Desk b = aim(EQ, APP, L + 4, APP, 3, 4, 5, APP, 3, 5);
         check.due("BETA goes before COMB", b.repeat(8), 1);
         b.close();
         check.due("its RULE", b.theorem(0, 2), BETA);
-        SequentDesk a = aim(EQ, EQ, 4, 5, EQ, 4, 5);
+        Desk a = aim(EQ, EQ, 4, 5, EQ, 4, 5);
         a.tactic(DEDUCT, 0);
         check.due("ASSUME twice", a.repeat(8), 2);
-        SequentDesk r = aim(EQ, EQ, 4, 4, EQ, 4, 4);
+        Desk r = aim(EQ, EQ, 4, 4, EQ, 4, 4);
         r.tactic(DEDUCT, 0);
         r.repeat(2);
         r.close();
         check.due("REFL goes before ASSUME", r.theorem(0, 2), REFL);
-        SequentDesk deep = aim(EQ, APP, 3, APP, 3, APP, 3, APP, 3, APP, 3, 4, APP, 3, APP, 3, APP, 3, APP, 3, APP, 3, 5);
+        Desk deep = aim(EQ, APP, 3, APP, 3, APP, 3, APP, 3, APP, 3, 4, APP, 3, APP, 3, APP, 3, APP, 3, APP, 3, 5);
         check.due("eight times", deep.repeat(8), 8);
         check.due("COMB and REFL of the fifth", deep.repeat(8), 2);
         check.due("one is open", deep.count(3), 1);
-        SequentDesk names = aim(EQ, L + 7, EQ, EQ, 4, 5, EQ, 6, 7, L + 7, EQ, EQ, 4, 5, EQ, 7, 6);
+        Desk names = aim(EQ, L + 7, EQ, EQ, 4, 5, EQ, 6, 7, L + 7, EQ, EQ, 4, 5, EQ, 7, 6);
         check.due("only NAME 7 goes", names.repeat(1), 1);
         wants("NAME 7", names, 0, 0, EQ, EQ, EQ, 4, 5, EQ, 6, 7, EQ, EQ, 4, 5, EQ, 7, 6);
-        SequentDesk no = aim(EQ, L + 7, APP, 2, 0, L + 7, APP, 2, 1);
+        Desk no = aim(EQ, L + 7, APP, 2, 0, L + 7, APP, 2, 1);
         check.due("ABS of what is not in the bodies", no.repeat(1), 1);
         wants("no variable is left", no, 0, 0, EQ, APP, 2, 0, APP, 2, 1);
     }
@@ -393,7 +393,7 @@ public final class GoalTest {
     private static void repeatsNames() {
         for (int v = 0; v < 8; v++) {
             for (int w = v; w < 8; w++) {
-                SequentDesk x = new SequentDesk();
+                Desk x = new Desk();
                 x.declare(v, 48);
                 x.declare(w, 48);
                 // The variable is used on TRUTHS, and gives TRUTHS.
@@ -406,7 +406,7 @@ public final class GoalTest {
 
     /** With 64 TERMS, ABS goes with the least NAME whose TERM is there. */
     private static void repeatsFull() {
-        SequentDesk x = new SequentDesk();
+        Desk x = new Desk();
         int goal = Check.read(x, EQ, L + 7, EQ, 7, 7, L + 7, EQ, 7, 0);
         Check.read(x, EQ, EQ, 5, 5, EQ, 5, 0);
         for (int i = 0; i < 62; i++) Check.read(x, EQ, i / 8, i % 8);
@@ -418,7 +418,7 @@ public final class GoalTest {
     }
 
     private static void opens() {
-        SequentDesk x = aim(EQ, EQ, 0, 1, EQ, 1, 0);
+        Desk x = aim(EQ, EQ, 0, 1, EQ, 1, 0);
         x.tactic(DEDUCT, 0);
         x.tactic(DEDUCT, 0);
         check.due("three are open", x.count(3), 3);
@@ -435,7 +435,7 @@ public final class GoalTest {
     }
 
     private static void closes() {
-        SequentDesk x = desk();
+        Desk x = desk();
         int start = x.rule(REFL, Check.read(x, 7), 0, 0);
         int goal = Check.read(x, EQ, APP, 3, APP, L + 4, 4, 5, APP, 3, 5);
         x.goal(goal);
@@ -461,7 +461,7 @@ public final class GoalTest {
         check.due("it says", x.theorem(start + 5, 0), goal);
         check.due("without HYPOTHESES", x.theorem(start + 5, 1), 0);
         check.due("it rests on", x.theorem(start + 5, 5), 5);
-        SequentDesk y = aim(EQ, L + 4, APP, L + 5, 5, 4, L + 4, 4);
+        Desk y = aim(EQ, L + 4, APP, L + 5, 5, 4, L + 4, 4);
         y.tactic(ABS, 6);
         y.tactic(BETA, 0);
         check.due("close of ABS", y.close(), 1);
@@ -472,7 +472,7 @@ public final class GoalTest {
 
     private static void closesDeduct() {
         // EQ (EQ 0 1) (EQ 1 0): each half is DEDUCT of EQMPs.
-        SequentDesk x = aim(EQ, EQ, 0, 1, EQ, 1, 0);
+        Desk x = aim(EQ, EQ, 0, 1, EQ, 1, 0);
         check.due("DEDUCT", x.tactic(DEDUCT, 0), 2);
         wants("EQ 1 0 makes EQ 0 1", x, 0, 1, EQ, 0, 1);
         check.due("DEDUCT", x.tactic(DEDUCT, 0), 3);
@@ -489,7 +489,7 @@ public final class GoalTest {
         // 1 out of EQ 1 0 and 0 needs EQ 0 1, which DEDUCT makes of EQMP and ASSUME: a loop, so it stays open.
         check.due("two are open", x.count(3), 2);
         check.due("close", x.close(), -1);
-        SequentDesk y = aim(EQ, 0, 0);
+        Desk y = aim(EQ, 0, 0);
         y.tactic(DEDUCT, 0);
         y.repeat(8);
         check.due("close of DEDUCT", y.close(), 2);
@@ -497,7 +497,7 @@ public final class GoalTest {
         check.due("the second one too", y.theorem(1, 1), 1);
         check.due("which is 0", y.hypothesis(1, 0), 1);
         check.due("DEDUCT has none", y.theorem(2, 1), 0);
-        SequentDesk z = desk();
+        Desk z = desk();
         z.goal(Check.read(z, EQ, EQ, 0, 1, EQ, 0, 1));
         int a = Check.read(z, EQ, 0, 1);
         z.tactic(DEDUCT, 0);
@@ -516,7 +516,7 @@ public final class GoalTest {
     }
 
     private static void closesExact() {
-        SequentDesk x = desk();
+        Desk x = desk();
         int eq = Check.read(x, EQ, 4, 4);
         int p = x.rule(REFL, Check.read(x, 4), 0, 0);
         int q = x.rule(REFL, Check.read(x, 3), 0, 0);
@@ -536,7 +536,7 @@ public final class GoalTest {
     }
 
     private static void closesFull() {
-        SequentDesk x = desk();
+        Desk x = desk();
         int t = Check.read(x, 4), eq = Check.read(x, EQ, 4, 4);
         for (int i = 0; i < 38; i++) x.rule(REFL, t, 0, 0);
         x.goal(eq);

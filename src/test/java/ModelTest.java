@@ -1,31 +1,40 @@
 import java.util.ArrayList;
 import java.util.List;
 
-/** Long runs of calls, always the same ones, on SequentDesk and on Model: both give the same answers. */
+/** Runs of up to 512 calls, always the same ones, on SequentDesk and on Model: both give the same answers. */
 public final class ModelTest {
-    private static final int RUNS = 400, CALLS = 400;
+    private static final int RUNS = 1200;
+    /** A draft of 24 tokens and more is the step with the most calls. */
+    private static final int MOST_OF_A_STEP = 40;
     private static final String[] TYPES = {"00", "01", "10000", "10101", "10100", "10001", "10110101", "11010001",
         "11000000", "10110110101", "11000110100", "11000010000"};
     private static final int TACTIC = 9, CLOSE = 18, READ = 19, REPEAT = 20, UNDO = 21;
-    /** By kind, which answers there are, 0 standing for all that are no refusals (BIG of EQMP is left to RuleTest). */
+    /** By kind, which answers there are, 0 standing for all that are no refusals (some rare ones are left to the tests of edges). */
     private static final int[][] RULE_ANSWERS = {{0, 1, 5, 6}, {0, 1, 4, 6}, {0, 1, 4, 5, 6}, {0, 1, 4, 5, 6}, {0, 1, 4, 5, 6},
         {0, 1, 4, 5, 6}, {0, 1, 4, 6}, {0, 1, 5, 6}, {0, 1, 4, 5, 6}};
-    private static final int[][] TACTIC_ANSWERS = {{0, 1, 4}, {0, 1, 4}, {0, 1, 4, 5, 6}, {0, 1, 4, 6}, {0, 1, 4, 6},
+    private static final int[][] TACTIC_ANSWERS = {{0, 1, 4}, {0, 1, 4}, {0, 1, 4, 5, 6}, {0, 1, 4}, {0, 1, 4},
         {0, 1, 4}, {0, 1, 4, 5, 6}, {0, 1, 4, 5, 6}, {0, 1, 4}};
     private static final Check check = new Check();
     private static long seed = 20261115L;
 
-    private final SequentDesk x = new SequentDesk();
+    /** A look at a desk, and what the model says to it. */
+    private record Look(String name, int a, int b, int c, Edges.Call call, int due) { }
+
+    private final Desk x = new Desk();
     private final Model m = new Model();
     private final int run;
     /** Some runs have short TERMS of TRUTHS alone, so that HYPOTHESES become many. */
     private final boolean small;
-    private final List<String> calls = new ArrayList<>();
+    /** Some runs stay with a GOAL for long, so that GOALS become many. */
+    private final boolean stubborn;
+    private final List<Edges.Call> calls = new ArrayList<>();
+    private final List<String> texts = new ArrayList<>();
     private boolean wrong = false;
 
     private ModelTest(int run) {
         this.run = run;
         small = run % 4 == 0;
+        stubborn = run % 4 == 1;
     }
 
     public static void main(String[] args) {
@@ -57,28 +66,60 @@ public final class ModelTest {
         return pick(100) < percent;
     }
 
-    private int same(String call, int got, int want) {
-        calls.add(call + " = " + got);
-        if (got != want && !wrong) {
-            wrong = true;
-            for (String c : calls) System.out.println("  " + c);
-        }
-        check.due("run " + run + ": " + call, got, want);
+    private int same(String text, Edges.Call call, int want) {
+        int got = call.on(x);
+        calls.add(call);
+        texts.add(text + " = " + got);
+        if (got != want && !wrong) tell(texts.size());
+        check.due("run " + run + ": " + text, got, want);
         return want;
     }
 
+    private void tell(int calls) {
+        wrong = true;
+        for (String text : texts.subList(0, calls)) System.out.println("  " + text);
+    }
+
+    /** A desk has 512 calls: some are for looks on the way, the others change something. */
     private void go(int[][] seen) {
         declareAll();
-        for (int i = 0; i < CALLS && !wrong; i++) {
-            int before = m.terms.size();
+        List<Look> halfway = null;
+        int half = 0;
+        while (x.left() > MOST_OF_A_STEP && !wrong) {
             step(seen);
-            compareCounts();
-            for (int t = before; t < m.terms.size() && !wrong; t++) compareTerm(t);
+            lookAround();
+            if (halfway == null && x.left() < Desk.MOST_CALLS / 2) {
+                halfway = looks();
+                half = calls.size();
+            }
         }
-        if (wrong) return;
-        for (int t = 0; t <= m.terms.size(); t++) compareTerm(t);
-        for (int p = 0; p <= m.thms.size(); p++) compareTheorem(p);
-        compareGoals();
+        if (halfway != null) compare(halfway, half);
+        compare(looks(), calls.size());
+    }
+
+    /** Looks that the model answers, on as many new desks as they need, each with the first calls of the run behind it. */
+    private void compare(List<Look> looks, int first) {
+        Desk y = null;
+        for (Look look : looks) {
+            if (wrong) return;
+            if (y == null || y.left() == 0) {
+                y = new Desk();
+                for (Edges.Call call : calls.subList(0, first)) call.on(y);
+            }
+            int got = look.call.on(y);
+            if (got != look.due) tell(first);
+            check.due(look.name, got, look.due, run, look.a, look.b, look.c);
+        }
+    }
+
+    /** One look on the way, where it could change something by mistake. */
+    private void lookAround() {
+        if (!chance(15) || wrong) return;
+        List<Look> looks = new ArrayList<>();
+        lookAtCounts(looks);
+        lookAtGoals(looks);
+        Look look = looks.get(pick(looks.size()));
+        check.due(look.name, look.call.on(x), look.due, run, look.a, look.b, look.c);
     }
 
     private static void note(int[] row, int answer) {
@@ -92,44 +133,48 @@ public final class ModelTest {
             if (style > 1 && v > 4) type = TYPES[pick(2)];
             if (small) type = Model.TRUTHS;
             int number = Model.numberOf(type);
-            same("declare(" + v + ", " + number + ")", x.declare(v, number), m.declare(v, number));
+            declare(v, number);
         }
+    }
+
+    private void declare(int v, int type) {
+        same("declare(" + v + ", " + type + ")", y -> y.declare(v, type), m.declare(v, type));
+    }
+
+    private void function(int from, int to) {
+        same("function(" + from + ", " + to + ")", y -> y.function(from, to), m.function(from, to));
     }
 
     private void step(int[][] seen) {
         int what = pick(100);
-        if (small && what >= 60 && what < 66 && chance(80)) what = 70;
+        if ((small || stubborn) && what >= 60 && what < 66 && !m.open().isEmpty() && chance(80)) what = 70;
         if (what < 30) {
             note(seen[READ], readSome());
         } else if (what < 60) {
             ruleSome(seen);
         } else if (what < 66) {
             int t = pick(m.terms.size() + 1) - (chance(5) ? 1 : 0);
-            same("goal(" + t + ")", x.goal(t), m.goal(t));
+            same("goal(" + t + ")", Edges.goal(t), m.goal(t));
         } else if (what < 84) {
             tacticSome(seen);
         } else if (what < 88) {
             int n = pick(10);
-            note(seen[REPEAT], same("repeat(" + n + ")", x.repeat(n), m.repeat(n)));
+            note(seen[REPEAT], same("repeat(" + n + ")", y -> y.repeat(n), m.repeat(n)));
         } else if (what < 91) {
-            note(seen[UNDO], same("undo()", x.undo(), m.undo()));
+            note(seen[UNDO], same("undo()", Desk::undo, m.undo()));
         } else if (what < 95) {
-            note(seen[CLOSE], same("close()", x.close(), m.close()));
-            if (!m.thms.isEmpty()) compareTheorem(m.thms.size() - 1);
+            note(seen[CLOSE], same("close()", Desk::close, m.close()));
         } else {
             odd();
         }
-        compareGoals();
     }
 
     private void odd() {
         int a = pick(4) == 0 ? pick(70) : Model.numberOf("1" + TYPES[pick(TYPES.length)] + TYPES[pick(TYPES.length)]), b = pick(70) - 2;
-        same("function(" + a + ", " + b + ")", x.function(a, b), m.function(a, b));
-        same("function(" + b + ", " + a + ")", x.function(b, a), m.function(b, a));
-        int number = pick(1 << 26);
-        same("function(" + number + ", 4)", x.function(number, 4), m.function(number, 4));
-        int v = pick(10) - 1;
-        same("declare(" + v + ", " + a + ")", x.declare(v, a), m.declare(v, a));
+        function(a, b);
+        function(b, a);
+        function(pick(1 << 26), 4);
+        declare(pick(10) - 1, a);
     }
 
     // Drafts
@@ -142,14 +187,15 @@ public final class ModelTest {
         if (chance(20) && !draft.isEmpty()) draft.set(pick(draft.size()), pick(18));
         if (chance(3)) draft.add(pick(18));
         if (chance(10)) scribble(draft);
-        same("clear()", x.clear(), m.draft.size());
+        while (draft.size() > 27) draft.remove(draft.size() - 1);
+        if (!m.draft.isEmpty() || chance(5)) same("clear()", Desk::clear, m.draft.size());
         m.draft.clear();
         for (int t : draft) {
             int due = t < 0 || t > 17 ? -1 : m.draft.size() == 24 ? -6 : m.draft.size() + 1;
             if (due > 0) m.draft.add(t);
-            same("token(" + t + ")", x.token(t), due);
+            same("token(" + t + ")", y -> y.token(t), due);
         }
-        return same("read()", x.read(), m.read());
+        return same("read()", Desk::read, m.read());
     }
 
     /** A whole draft without a thought of TYPES, mostly of LAMs and variables. */
@@ -232,9 +278,8 @@ public final class ModelTest {
         // Few THEOREMS of the simplest RULES, so that there is room for the others.
         if (kind == 0 && m.thms.size() > 15 && chance(80)) return;
         int want = m.rule(kind, a, b, c, true);
-        same("rule(" + kind + ", " + a + ", " + b + ", " + c + ")", x.rule(kind, a, b, c), want);
+        same("rule(" + kind + ", " + a + ", " + b + ", " + c + ")", Edges.rule(kind, a, b, c), want);
         if (kind >= 0 && kind < 9) note(seen[kind], want);
-        if (want >= 0) compareTheorem(want);
     }
 
     private int mostHypotheses() {
@@ -249,7 +294,7 @@ public final class ModelTest {
         int kind = pick(9), arg = 0;
         boolean found = false;
         for (int tries = 0; tries < 25 && !found; tries++) {
-            if (tries % 5 == 0) kind = small && chance(80) ? 6 + pick(2) : pick(9);
+            if (tries % 5 == 0) kind = small && chance(80) ? 6 + pick(2) : stubborn && chance(80) ? 2 + pick(3) : pick(9);
             arg = kind == 4 ? pick(8) : kind == 8 ? pick(Math.max(1, m.thms.size())) : pick(Math.max(1, m.terms.size()));
             int answer = m.tactic(kind, arg, false);
             found = answer >= 0 || answer < -4;
@@ -257,19 +302,29 @@ public final class ModelTest {
         if (chance(4)) arg = pick(80) - 2;
         if (chance(1)) kind = pick(30) - 10;
         int want = m.tactic(kind, arg, true);
-        same("tactic(" + kind + ", " + arg + ")", x.tactic(kind, arg), want);
+        same("tactic(" + kind + ", " + arg + ")", Edges.tactic(kind, arg), want);
         if (kind >= 0 && kind < 9) note(seen[TACTIC + kind], want);
     }
 
     // Looks
 
-    private void compareCounts() {
-        for (int what = -1; what < 6; what++) check.due("run " + run + ": count(" + what + ")", x.count(what), m.count(what));
+    private List<Look> looks() {
+        List<Look> looks = new ArrayList<>();
+        lookAtCounts(looks);
+        for (int t = -1; t <= m.terms.size(); t++) lookAtTerm(looks, t);
+        for (int p = -1; p <= m.thms.size(); p++) lookAtTheorem(looks, p);
+        lookAtGoals(looks);
+        return looks;
     }
 
-    private void compareTerm(int t) {
-        if (t >= m.terms.size()) {
-            check.due("term behind the last", x.term(t, 0), -1);
+    private void lookAtCounts(List<Look> looks) {
+        for (int what = -1; what < 6; what++) looks.add(new Look("count", what, 0, 0, Edges.count(what), m.count(what)));
+    }
+
+    private void lookAtTerm(List<Look> looks, int t) {
+        if (t < 0 || t >= m.terms.size()) {
+            looks.add(new Look("term", t, 0, 0, Edges.term(t, 0), -1));
+            looks.add(new Look("symbol", t, 0, 0, Edges.symbol(t, 0, 0), -1));
             return;
         }
         Model.T tree = m.terms.get(t);
@@ -277,29 +332,23 @@ public final class ModelTest {
         List<String> types = new ArrayList<>();
         m.flatten(tree, List.of(), symbols, types);
         int[] due = {symbols.size(), Model.numberOf(m.type(tree)), Model.nameSum(tree), Model.deepness(tree), -1};
-        for (int what = 0; what < 5; what++) check.due("run " + run + ": term(" + t + ", " + what + ")", x.term(t, what), due[what]);
+        for (int what = 0; what < 5; what++) looks.add(new Look("term", t, what, 0, Edges.term(t, what), due[what]));
         for (int i = 0; i < symbols.size(); i++) {
-            check.due("run " + run + ": symbol(" + t + ", " + i + ", 0)", x.symbol(t, i, 0), symbols.get(i));
-            check.due("run " + run + ": symbol(" + t + ", " + i + ", 1)", x.symbol(t, i, 1), Model.numberOf(types.get(i)));
+            looks.add(new Look("symbol", t, i, 0, Edges.symbol(t, i, 0), symbols.get(i)));
+            looks.add(new Look("symbol", t, i, 1, Edges.symbol(t, i, 1), Model.numberOf(types.get(i))));
         }
-        check.due("symbol behind the last", x.symbol(t, symbols.size(), 0), -1);
+        looks.add(new Look("symbol", t, symbols.size(), 0, Edges.symbol(t, symbols.size(), 0), -1));
     }
 
-    private void compareTheorem(int p) {
-        for (int what = -1; what < 7; what++) {
-            check.due("run " + run + ": theorem(" + p + ", " + what + ")", x.theorem(p, what), m.theorem(p, what));
-        }
-        for (int k = -1; k < 8; k++) {
-            check.due("run " + run + ": hypothesis(" + p + ", " + k + ")", x.hypothesis(p, k), m.hypothesis(p, k));
-        }
+    private void lookAtTheorem(List<Look> looks, int p) {
+        for (int what = -1; what < 7; what++) looks.add(new Look("theorem", p, what, 0, Edges.theorem(p, what), m.theorem(p, what)));
+        for (int k = -1; k < 8; k++) looks.add(new Look("hypothesis", p, k, 0, Edges.hypothesis(p, k), m.hypothesis(p, k)));
     }
 
-    private void compareGoals() {
+    private void lookAtGoals(List<Look> looks) {
         int open = m.open().size();
         for (int k = -1; k <= open; k++) {
-            for (int what = -1; what < 10; what++) {
-                check.due("run " + run + ": open(" + k + ", " + what + ")", x.open(k, what), m.look(k, what));
-            }
+            for (int what = -1; what < 10; what++) looks.add(new Look("open", k, what, 0, Edges.open(k, what), m.look(k, what)));
         }
     }
 }

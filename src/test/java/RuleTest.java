@@ -27,8 +27,8 @@ public final class RuleTest {
     }
 
     /** 0, 1 of TRUTHS, 2 from TRUTHS to TRUTHS, 3 from THINGS to THINGS, the others THINGS. */
-    private static SequentDesk desk() {
-        SequentDesk x = new SequentDesk();
+    private static Desk desk() {
+        Desk x = new Desk();
         x.declare(0, 4);
         x.declare(1, 4);
         x.declare(2, 48);
@@ -37,27 +37,27 @@ public final class RuleTest {
     }
 
     /** A TERM is the one that a draft would be read as. */
-    private static void is(String what, SequentDesk x, int t, int... draft) {
+    private static void is(String what, Desk x, int t, int... draft) {
         int made = x.count(0);
         check.due(what, t, Check.read(x, draft));
         check.due(what + " is there already", x.count(0), made);
         x.clear();
     }
 
-    private static void says(String what, SequentDesk x, int p, int hypotheses, int... draft) {
+    private static void says(String what, Desk x, int p, int hypotheses, int... draft) {
         is(what, x, x.theorem(p, 0), draft);
         check.due(what + ": how many HYPOTHESES", x.theorem(p, 1), hypotheses);
         check.due(what + ": none behind them", x.hypothesis(p, hypotheses), -1);
     }
 
-    private static void made(String what, SequentDesk x, int p, int kind, int first, int second) {
+    private static void made(String what, Desk x, int p, int kind, int first, int second) {
         check.due(what + ": its RULE", x.theorem(p, 2), kind);
         check.due(what + ": the first of which it was made", x.theorem(p, 3), first);
         check.due(what + ": the second of which it was made", x.theorem(p, 4), second);
     }
 
     private static void numbers() {
-        SequentDesk x = desk();
+        Desk x = desk();
         int t = Check.read(x, EQ, 0, 1);
         int p = x.rule(REFL, t, 0, 0);
         String before = Check.counts(x);
@@ -96,7 +96,7 @@ public final class RuleTest {
     }
 
     private static void refl() {
-        SequentDesk x = desk();
+        Desk x = desk();
         int p = x.rule(REFL, Check.read(x, APP, 3, 4), 0, 0);
         check.due("the TERM is new", x.count(0), 2);
         says("REFL", x, p, 0, EQ, APP, 3, 4, APP, 3, 4);
@@ -112,7 +112,7 @@ public final class RuleTest {
     }
 
     private static void assume() {
-        SequentDesk x = desk();
+        Desk x = desk();
         int t = Check.read(x, 0);
         int p = x.rule(ASSUME, t, 0, 0);
         says("ASSUME", x, p, 1, 0);
@@ -123,7 +123,7 @@ public final class RuleTest {
     }
 
     private static void trans() {
-        SequentDesk x = desk();
+        Desk x = desk();
         int ab = Check.read(x, EQ, 4, 5), bc = Check.read(x, EQ, 5, 6);
         int p = x.rule(ASSUME, ab, 0, 0), q = x.rule(ASSUME, bc, 0, 0);
         int pq = x.rule(TRANS, p, q, 0);
@@ -145,7 +145,7 @@ public final class RuleTest {
     }
 
     private static void comb() {
-        SequentDesk x = desk();
+        Desk x = desk();
         int f = x.rule(REFL, Check.read(x, 3), 0, 0);
         int a = x.rule(ASSUME, Check.read(x, EQ, 4, 5), 0, 0);
         int p = x.rule(COMB, f, a, 0);
@@ -171,7 +171,7 @@ public final class RuleTest {
     }
 
     private static void abs() {
-        SequentDesk x = desk();
+        Desk x = desk();
         int p = x.rule(REFL, Check.read(x, L + 7, EQ, APP, 3, 4, 7), 0, 0);
         int q = x.rule(ABS, p, 4, 0);
         says("ABS", x, q, 0, EQ, L + 4, L + 7, EQ, APP, 3, 4, 7, L + 4, L + 7, EQ, APP, 3, 4, 7);
@@ -187,7 +187,7 @@ public final class RuleTest {
     }
 
     private static void absBig() {
-        SequentDesk x = new SequentDesk();
+        Desk x = new Desk();
         int four = 0b1_1_10101_10101, eight = x.function(four, four);
         x.declare(0, eight);
         x.declare(1, four);
@@ -208,7 +208,7 @@ public final class RuleTest {
     }
 
     private static void beta() {
-        SequentDesk x = desk();
+        Desk x = desk();
         int t = Check.read(x, APP, L + 4, EQ, APP, 3, 4, 4, APP, 3, 5);
         int p = x.rule(BETA, t, 0, 0);
         says("BETA", x, p, 0, EQ, APP, L + 4, EQ, APP, 3, 4, 4, APP, 3, 5, EQ, APP, 3, APP, 3, 5, APP, 3, 5);
@@ -231,7 +231,7 @@ public final class RuleTest {
     }
 
     private static void betaBig() {
-        SequentDesk x = desk();
+        Desk x = desk();
         // 8 + 5 SYMBOLS to 11: 24 in all with EQ; one more is too many.
         int fits = Check.read(x, APP, L + 4, EQ, 4, APP, 3, 4, APP, 3, APP, 3, 5);
         check.due("12 and 11 SYMBOLS", x.term(fits, 0), 12);
@@ -251,7 +251,7 @@ public final class RuleTest {
     }
 
     private static void eqmp() {
-        SequentDesk x = desk();
+        Desk x = desk();
         int eq = Check.read(x, EQ, 0, APP, 2, 1), a = Check.read(x, 0);
         int p = x.rule(ASSUME, eq, 0, 0), q = x.rule(ASSUME, a, 0, 0);
         int r = x.rule(EQMP, p, q, 0);
@@ -265,7 +265,7 @@ public final class RuleTest {
     }
 
     private static void deduct() {
-        SequentDesk x = desk();
+        Desk x = desk();
         int a = Check.read(x, 0), b = Check.read(x, 1);
         int p = x.rule(ASSUME, a, 0, 0), q = x.rule(ASSUME, b, 0, 0);
         int r = x.rule(DEDUCT, p, q, 0);
@@ -296,7 +296,7 @@ public final class RuleTest {
     }
 
     private static void inst() {
-        SequentDesk x = desk();
+        Desk x = desk();
         int a = Check.read(x, EQ, APP, 3, 4, 5), t = Check.read(x, APP, 3, 6);
         int p = x.rule(ASSUME, a, 0, 0);
         int made = x.count(0);
@@ -320,7 +320,7 @@ public final class RuleTest {
     }
 
     private static void instMerges() {
-        SequentDesk x = desk();
+        Desk x = desk();
         int ab = Check.read(x, EQ, 4, 5), bc = Check.read(x, EQ, 5, 6), ca = Check.read(x, EQ, 6, 5);
         int p = x.rule(TRANS, x.rule(TRANS, x.rule(ASSUME, ab, 0, 0), x.rule(ASSUME, bc, 0, 0), 0), x.rule(ASSUME, ca, 0, 0), 0);
         check.due("three HYPOTHESES", x.theorem(p, 1), 3);
@@ -331,7 +331,7 @@ public final class RuleTest {
         check.due("at the place of the first", x.hypothesis(r, 0), ab);
         check.due("the other behind it", x.hypothesis(r, 1), made + 1);
         is("which is EQ 5 4", x, made + 1, EQ, 5, 4);
-        SequentDesk y = desk();
+        Desk y = desk();
         int q = y.rule(TRANS, y.rule(ASSUME, Check.read(y, EQ, 4, 5), 0, 0), y.rule(ASSUME, Check.read(y, EQ, 5, 6), 0, 0), 0);
         int seven = Check.read(y, 7);
         int s = y.rule(INST, q, 5, seven);
@@ -345,7 +345,7 @@ public final class RuleTest {
     }
 
     private static void instBigAndFull() {
-        SequentDesk x = desk();
+        Desk x = desk();
         int p = x.rule(ASSUME, Check.read(x, EQ, APP, 3, 4, APP, 3, 4), 0, 0);
         int ten = Check.read(x, APP, L, APP, 3, APP, 3, 0, APP, 3, APP, 3, 4);
         check.due("a TERM of 12", x.term(ten, 0), 12);
@@ -361,7 +361,7 @@ public final class RuleTest {
     }
 
     private static void hypothesesBig() {
-        SequentDesk x = new SequentDesk();
+        Desk x = new Desk();
         int[] way = {4, 5, 6, 7, 4, 6, 5};
         int p = x.rule(ASSUME, Check.read(x, EQ, 4, 5), 0, 0);
         for (int i = 1; i < 6; i++) {
@@ -382,7 +382,7 @@ public final class RuleTest {
     }
 
     private static void fullTheorems() {
-        SequentDesk x = desk();
+        Desk x = desk();
         int t = Check.read(x, EQ, 4, 4);
         for (int i = 0; i < 40; i++) check.due("THEOREM " + i, x.rule(ASSUME, t, 0, 0), i);
         String before = Check.counts(x);
@@ -396,7 +396,7 @@ public final class RuleTest {
     }
 
     private static void fullTerms() {
-        SequentDesk x = new SequentDesk();
+        Desk x = new Desk();
         x.declare(0, 53);
         for (int i = 0; i < 49; i++) Check.read(x, EQ, 1 + i / 7, 1 + i % 7);
         for (int v = 0; v < 8; v++) Check.read(x, v);
@@ -419,7 +419,7 @@ public final class RuleTest {
     }
 
     private static void rests() {
-        SequentDesk x = desk();
+        Desk x = desk();
         int a = x.rule(REFL, Check.read(x, 4), 0, 0);
         int b = x.rule(TRANS, a, a, 0);
         int c = x.rule(TRANS, b, b, 0);

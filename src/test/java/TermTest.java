@@ -21,7 +21,7 @@ public final class TermTest {
     }
 
     private static void newObject() {
-        SequentDesk x = new SequentDesk();
+        Desk x = new Desk();
         check.same("a new object", Check.counts(x), "0 0 0 0 0");
         for (int v = 0; v < 8; v++) check.due("the TYPE of NAME " + v, x.declare(v, 5), 5);
         check.due("read of an empty draft", x.read(), -2);
@@ -35,7 +35,7 @@ public final class TermTest {
     }
 
     private static void functions() {
-        SequentDesk x = new SequentDesk();
+        Desk x = new Desk();
         check.due("function(4, 4)", x.function(4, 4), 0b1_1_00_00);
         check.due("function(5, 4)", x.function(5, 4), 0b1_1_01_00);
         check.due("function(48, 5)", x.function(48, 5), 0b1_1_10000_01);
@@ -62,7 +62,7 @@ public final class TermTest {
     }
 
     private static void declarations() {
-        SequentDesk x = new SequentDesk();
+        Desk x = new Desk();
         check.due("declare(0, 4)", x.declare(0, 4), 5);
         check.due("declare(0, 48)", x.declare(0, 48), 4);
         check.due("declare(0, 5)", x.declare(0, 5), 48);
@@ -79,7 +79,7 @@ public final class TermTest {
     }
 
     private static void tokens() {
-        SequentDesk x = new SequentDesk();
+        Desk x = new Desk();
         check.due("token(-1)", x.token(-1), -1);
         check.due("token(18)", x.token(18), -1);
         for (int i = 0; i < 24; i++) check.due("token " + i, x.token(i % 18), i + 1);
@@ -92,7 +92,7 @@ public final class TermTest {
     }
 
     private static void shapes() {
-        SequentDesk x = new SequentDesk();
+        Desk x = new Desk();
         int[][] wrong = {{APP}, {EQ, 0}, {0, 0}, {L}, {APP, 0, 1, 2}, {L, 0, 0}, {EQ, EQ, 0, 1}, {0, APP}, {17}};
         for (int[] tokens : wrong) {
             check.due("a draft that is no TERM", Check.read(x, tokens), -2);
@@ -103,7 +103,7 @@ public final class TermTest {
     }
 
     private static void kinds() {
-        SequentDesk x = new SequentDesk();
+        Desk x = new Desk();
         x.declare(0, 4);
         x.declare(2, 48);
         int[][] wrong = {{APP, 0, 0}, {APP, 2, 1}, {EQ, 0, 1}, {EQ, 2, 0}, {L + 1, APP, 1, 1},
@@ -118,18 +118,18 @@ public final class TermTest {
         check.due("APP 2 1 then", Check.read(x, APP, 2, 1), 0);
     }
 
-    private static void types(String what, SequentDesk x, int t, int... types) {
+    private static void types(String what, Desk x, int t, int... types) {
         check.due(what + ": length", x.term(t, 0), types.length);
         for (int i = 0; i < types.length; i++) check.due(what + ": TYPE " + i, x.symbol(t, i, 1), types[i]);
     }
 
-    private static void symbols(String what, SequentDesk x, int t, int... symbols) {
+    private static void symbols(String what, Desk x, int t, int... symbols) {
         check.due(what + ": length", x.term(t, 0), symbols.length);
         for (int i = 0; i < symbols.length; i++) check.due(what + ": SYMBOL " + i, x.symbol(t, i, 0), symbols[i]);
     }
 
     private static void generalTypes() {
-        SequentDesk x = new SequentDesk();
+        Desk x = new Desk();
         x.declare(0, 4);
         x.declare(2, 48);
         types("an open variable", x, Check.read(x, L + 1, 1), 53, 5);
@@ -146,7 +146,7 @@ public final class TermTest {
     }
 
     private static void bigTypes() {
-        SequentDesk x = new SequentDesk();
+        Desk x = new Desk();
         int[] open = {L, L, L, L, L, L, L, 0};
         types("seven LAMs", x, Check.read(x, open), 0b1_1_01_1_01_1_01_1_01_1_01_1_01_1_01_01,
             0b1_1_01_1_01_1_01_1_01_1_01_1_01_01, 0b1_1_01_1_01_1_01_1_01_1_01_01, 0b1_1_01_1_01_1_01_1_01_01,
@@ -169,7 +169,7 @@ public final class TermTest {
     }
 
     private static void scopes() {
-        SequentDesk x = new SequentDesk();
+        Desk x = new Desk();
         symbols("the NAME itself", x, Check.read(x, L, 1), 10, 1);
         symbols("the variable", x, Check.read(x, L + 1, 1), 10, 11);
         symbols("two", x, Check.read(x, L, L + 1, EQ, 0, 1), 10, 10, 9, 12, 11);
@@ -181,7 +181,7 @@ public final class TermTest {
     }
 
     private static void alikeTerms() {
-        SequentDesk x = new SequentDesk();
+        Desk x = new Desk();
         x.declare(0, 4);
         check.due("LAM 3 3", Check.read(x, L + 3, 3), 0);
         check.due("LAM 4 4", Check.read(x, L + 4, 4), 0);
@@ -206,7 +206,7 @@ public final class TermTest {
     }
 
     private static void fullTerms() {
-        SequentDesk x = new SequentDesk();
+        Desk x = new Desk();
         for (int i = 0; i < 64; i++) check.due("TERM " + i, Check.read(x, EQ, i / 8, i % 8), i);
         check.due("a new one", Check.read(x, 0), -6);
         check.due("its draft stays", x.clear(), 1);
@@ -220,7 +220,7 @@ public final class TermTest {
     }
 
     private static void looks() {
-        SequentDesk x = new SequentDesk();
+        Desk x = new Desk();
         x.declare(2, 0b1_1_01_01);
         int t = Check.read(x, EQ, APP, 2, APP, 2, 7, APP, L, 0, 5);
         check.due("how many", x.term(t, 0), 10);
@@ -259,7 +259,7 @@ public final class TermTest {
     }
 
     private static void counts() {
-        SequentDesk x = new SequentDesk();
+        Desk x = new Desk();
         int t = Check.read(x, EQ, 0, 0);
         x.rule(0, t, 0, 0);
         x.rule(0, t, 0, 0);
