@@ -568,6 +568,15 @@ public final class GoalEdgeTest extends Edges {
         takes("repeat: the least NAME of the TYPE", aim(EQ, L + 7, 7, L + 7, APP, 3, 7), abs, 16 + 8);
         takes("repeat: the least NAME that is not in it", aim(EQ, L + 7, EQ, 7, 4, L + 7, EQ, 7, 5), abs, 16 + 32 + 64);
         takes("repeat: the last NAME", aim(EQ, L + 7, EQ, EQ, 7, 4, EQ, 5, 6, L + 7, EQ, EQ, 7, 4, EQ, 5, 5), abs, 16 + 32 + 64 + 128);
+        for (int v = 0; v < 8; v++) {
+            // The variable goes from TRUTHS to TRUTHS, as NAME v alone does.
+            int only = v;
+            Run one = x -> {
+                x.declare(only, 48);
+                x.goal(read(x, EQ, L, APP, 0, EQ, L, 0, L, 0, L, EQ, L, 0, L, 0));
+            };
+            takes("repeat: NAME " + v + " alone", one, abs, 1 << v);
+        }
         Run noName = aim(EQ, L + 3, EQ, EQ, 3, 4, EQ, 5, 6, L + 3, EQ, EQ, 3, 4, EQ, 5, 7);
         takes("repeat: no NAME goes", noName, x -> x.repeat(8), 0);
         same("repeat: where no NAME goes nothing changes", noName, after(noName, x -> x.repeat(8)));

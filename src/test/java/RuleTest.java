@@ -153,6 +153,9 @@ public final class RuleTest {
         made("COMB", x, p, COMB, f, a);
         check.due("the TYPE of APP", x.symbol(x.theorem(p, 0), 1, 1), 5);
         check.due("the other way", x.rule(COMB, a, f, 0), -4);
+        int truths = x.rule(COMB, x.rule(REFL, Check.read(x, L + 7, EQ, 7, 4), 0, 0), a, 0);
+        says("COMB of LAMs", x, truths, 1, EQ, APP, L + 7, EQ, 7, 4, 4, APP, L + 7, EQ, 7, 4, 5);
+        check.due("APP has the TYPE to which the LAM goes", x.symbol(x.theorem(truths, 0), 1, 1), 4);
         check.due("used on another TYPE", x.rule(COMB, x.rule(REFL, Check.read(x, 2), 0, 0), a, 0), -4);
         int truth = x.rule(ASSUME, Check.read(x, 0), 0, 0);
         check.due("p is no EQ", x.rule(COMB, truth, a, 0), -4);

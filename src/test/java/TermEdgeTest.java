@@ -344,6 +344,9 @@ public final class TermEdgeTest extends Edges {
         int[] seven = {L + 1, APP, L + 2, APP, L + 3, APP, L + 4, APP, L + 5, APP, L + 6, APP, L + 7, EQ, 1, 7, 0, 0, 0, 0, 0, 0};
         takes("seven LAMs around", after(truths, reads(seven)), symbol(0, 14, 0), 17);
         takes("the innermost of seven", after(truths, reads(seven)), symbol(0, 15, 0), 11);
+        // LAM 7, then six and five other ones around: 11 between the variable and its own.
+        int[] twelve = {L + 7, L, L, L, L, L, L, APP, L, APP, L, APP, L, APP, L, APP, L, 7, 1, 1, 1, 1, 1};
+        takes("twelve LAMs around", reads(twelve), symbol(0, 17, 0), 22);
         takes("what is left open is THINGS", reads(row(L, 0)), symbol(0, 1, 1), 5);
         takes("what is left open in a function is THINGS", reads(row(L, APP, 0, 1)), symbol(0, 2, 1), 53);
         takes("what EQ says is TRUTHS", reads(row(L, EQ, 0, EQ, 1, 1)), symbol(0, 2, 1), 4);
