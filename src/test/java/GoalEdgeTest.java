@@ -22,6 +22,7 @@ public final class GoalEdgeTest extends Edges {
         betaUnfit();
         deductUnfit();
         exactUnfit();
+        refusedRuleLeavesNothing();
         symbolsBig();
         hypothesesBig();
         goalsFull();
@@ -235,6 +236,7 @@ public final class GoalEdgeTest extends Edges {
         }
         refuses("tactic: TRANS UNFIT, of THINGS for TRUTHS", after(aim(EQ, 0, 1), reads(row(4))), tactic(TRANS, 1), UNFIT);
         refuses("tactic: TRANS UNFIT, other FUNCTIONS", after(aim(EQ, 2, 2), reads(row(3))), tactic(TRANS, 1), UNFIT);
+        refuses("tactic: TRANS UNFIT, APP with that PART", after(aim(APP, 2, 0), reads(row(2))), tactic(TRANS, 1), UNFIT);
         takes("tactic: TRANS of FUNCTIONS", after(aim(EQ, 2, 2), reads(row(2))), tactic(TRANS, 1), 2);
         unfit(TRANS, 0, row(0), row(APP, 2, 0), row(APP, L, 0, 0));
         for (int[] draft : new int[][] {{4}, {3}, {2}, {L, EQ, 0, 0}, {APP, 3, 4}}) {
@@ -247,7 +249,8 @@ public final class GoalEdgeTest extends Edges {
 
     private static void combUnfit() {
         unfit(COMB, 0, row(0), row(APP, 2, 0), row(EQ, 4, 5), row(EQ, APP, 3, 4, 5), row(EQ, 5, APP, 3, 4), row(EQ, L, APP, 3, 4, APP, L, 3, 4),
-            row(EQ, APP, L, 4, 0, APP, L, 4, 5), row(EQ, APP, L, 4, 5, APP, L, 4, 0), row(EQ, L, APP, 3, 4, L, APP, 3, 4));
+            row(EQ, EQ, 2, 2, APP, 2, 0), row(EQ, APP, 2, 0, EQ, 2, 2), row(EQ, APP, L, 4, 0, APP, L, 4, 5),
+            row(EQ, APP, L, 4, 5, APP, L, 4, 0), row(EQ, L, APP, 3, 4, L, APP, 3, 4));
         takes("tactic: COMB, functions of the same TYPE", aim(EQ, APP, L, 4, 5, APP, 3, 6), tactic(COMB, 0), 2);
         takes("tactic: COMB of the same side twice", aim(EQ, APP, 3, 4, APP, 3, 4), tactic(COMB, 0), 2);
     }
@@ -263,6 +266,8 @@ public final class GoalEdgeTest extends Edges {
         takes("tactic: ABS with a NAME of TRUTHS", truths, tactic(ABS, 1), 1);
         for (int v : new int[] {0, 2, 4, 6}) refuses("tactic: ABS UNFIT, NAME " + v + " for FUNCTIONS", functions, tactic(ABS, v), UNFIT);
         takes("tactic: ABS with a NAME of FUNCTIONS", functions, tactic(ABS, 3), 1);
+        refuses("tactic: ABS UNFIT, APP of two LAMs", aim(APP, L + 7, EQ, 7, 7, L + 7, 7), tactic(ABS, 3), UNFIT);
+        takes("tactic: ABS of EQ of two LAMs on FUNCTIONS", aim(EQ, L + 7, EQ, 7, L, 0, L + 7, EQ, 7, 7), tactic(ABS, 3), 1);
         takes("tactic: ABS, a variable is no NAME", aim(EQ, L + 7, 7, L + 7, 4), tactic(ABS, 7), 1);
         // DEDUCT twice: EQ 4 5 is the first HYPOTHESIS, EQ 6 6 the second, and the GOAL is EQ of LAMs.
         Run two = after(aim(EQ, EQ, EQ, L, 0, L, 0, EQ, 6, 6, EQ, 4, 5), does(tactic(DEDUCT, 0), tactic(DEDUCT, 0)));
@@ -307,7 +312,25 @@ public final class GoalEdgeTest extends Edges {
         Run both = after(one, x -> x.goal(read(x, EQ, EQ, 1, 0, EQ, 0, 1)), does(tactic(DEDUCT, 0), tactic(DEDUCT, 0)));
         takes("tactic: EXACT, both are in H", both, tactic(EXACT, 2), 2);
         takes("tactic: EXACT, H has more", after(firstOfTwo(), does(rule(ASSUME, 2, 0, 0))), tactic(EXACT, 0), 2);
-        takes("tactic: EXACT, none of H is needed", after(aim(EQ, EQ, 4, 4, 0), x -> x.rule(REFL, read(x, 4), 0, 0), does(tactic(DEDUCT, 0))), tactic(EXACT, 0), 1);
+        Run unneeded = after(aim(EQ, EQ, 4, 4, 0), x -> x.rule(REFL, read(x, 4), 0, 0), does(tactic(DEDUCT, 0)));
+        takes("tactic: EXACT, none of H is needed", unneeded, tactic(EXACT, 0), 1);
+    }
+
+    /** What a refused call wrote is not taken for a part of the TERM that is made next: here NAME 1, behind a refused RULE. */
+    private static void refusedRuleLeavesNothing() {
+        int[][] drafts = {{0}, {APP, 2, 0}, {L, 4}, {APP, L, 0, 4}};
+        int[][] tactics = {{REFL, 0}, {TRANS, 0}, {DEDUCT, 0}, {COMB, 0}, {ABS, 6}, {BETA, 0}};
+        for (int[] draft : drafts) {
+            for (int kind : new int[] {REFL, BETA}) {
+                Run full = after(Edges::names, reads(row(0), draft), assumeUpTo(40, 0));
+                Run before = after(full, x -> x.rule(kind, x.count(0) - 1, 0, 0), x -> x.goal(read(x, 1)));
+                for (int[] one : tactics) refuses("tactic: " + one[0] + " UNFIT of a NAME", before, tactic(one[0], one[1]), UNFIT);
+            }
+        }
+        // TRANS is FULL of GOALS, so that EQ of 0 and APP 2 0 is not made.
+        Run crowd = after(crowd(29, row(0), row(1)), reads(row(APP, 2, 0)), does(x -> x.tactic(TRANS, x.count(0) - 1)));
+        Run assumed = after(crowd, x -> x.rule(ASSUME, read(x, 1), 0, 0), does(rule(ASSUME, 0, 0, 0)));
+        refuses("rule: EQMP UNFIT of a NAME", assumed, rule(EQMP, 0, 1, 0), UNFIT);
     }
 
     // BIG as in rule
@@ -422,7 +445,7 @@ public final class GoalEdgeTest extends Edges {
         refuses("tactic: REFUSED before UNFIT, ABS", truth, tactic(ABS, 8), REFUSED);
         refuses("tactic: REFUSED before UNFIT, EXACT", truth, tactic(EXACT, 0), REFUSED);
         refuses("tactic: UNFIT before BIG, TRANS of no EQ", truth, tactic(TRANS, 1), UNFIT);
-        refuses("tactic: UNFIT before BIG, TRANS of another TYPE", after(aim(eq(thing(11), row(6))), reads(truth(13))), x -> x.tactic(TRANS, x.count(0) - 1), UNFIT);
+        refuses("tactic: UNFIT before BIG, TRANS of another TYPE", after(aim(eq(thing(11), row(6))), reads(truth(13))), tactic(TRANS, 1), UNFIT);
         refuses("tactic: UNFIT before BIG, EQMP", after(aim(truth(11)), reads(thing(13))), tactic(EQMP, 1), UNFIT);
         refuses("tactic: UNFIT before BIG, DEDUCT", assuming(6), tactic(DEDUCT, 0), UNFIT);
         refuses("tactic: REFUSED before BIG", after(aim(eq(thing(11), row(6))), reads(thing(13))), tactic(TRANS, 2), REFUSED);
@@ -594,7 +617,9 @@ public final class GoalEdgeTest extends Edges {
         for (int k : new int[] {-1, 3, 4, 29, 30, LEAST, MOST}) {
             for (int what = 0; what < 4; what++) refuses("open: REFUSED for GOAL " + k, three, open(k, what), REFUSED);
         }
-        for (int what : new int[] {-1, 4, 5, 7, 8, LEAST, MOST}) refuses("open: REFUSED for what " + what + ", two HYPOTHESES", three, open(0, what), REFUSED);
+        for (int what : new int[] {-1, 4, 5, 7, 8, LEAST, MOST}) {
+            refuses("open: REFUSED for what " + what + ", two HYPOTHESES", three, open(0, what), REFUSED);
+        }
         for (int what : new int[] {-2, 3, 4, 8}) refuses("open: REFUSED for what " + what + ", one HYPOTHESIS", three, open(2, what), REFUSED);
         for (int what : new int[] {-1, 2, 3, 8}) refuses("open: REFUSED for what " + what + ", no HYPOTHESES", aim(0), open(0, what), REFUSED);
         // TERMS: the GOAL 0, EQ 1 0 is 1, EQ 0 1 is 2, then NAME 1 is 3 and NAME 0 is 4.

@@ -25,6 +25,7 @@ public final class GoalTest {
         opens();
         closes();
         closesDeduct();
+        closesHypotheses();
         closesExact();
         closesFull();
         check.end();
@@ -513,6 +514,29 @@ public final class GoalTest {
         check.due("DEDUCT of", z.theorem(4, 3), 2);
         check.due("DEDUCT and", z.theorem(4, 4), 3);
         check.due("none is left", z.theorem(4, 1), 0);
+    }
+
+    /** TRANS of ASSUME and REFL, or of REFL and ASSUME: the HYPOTHESIS comes from the first THEOREM, or from the second. */
+    private static void closesHypotheses() {
+        for (int first : new int[] {ASSUME, REFL}) {
+            Desk x = aim(EQ, 4, 4);
+            int four = Check.read(x, 4);
+            check.due("EQMP of the GOAL itself", x.tactic(EQMP, 0), 2);
+            check.due("DEDUCT", x.tactic(DEDUCT, 0), 3);
+            check.due("TRANS", x.tactic(TRANS, four), 4);
+            check.due("the first side", x.tactic(first, 0), 3);
+            check.due("the second side", x.tactic(ASSUME + REFL - first, 0), 2);
+            check.due("the second GOAL of DEDUCT", x.tactic(ASSUME, 0), 1);
+            check.due("the second GOAL of EQMP", x.tactic(REFL, 0), 0);
+            check.due("close", x.close(), 6);
+            int[] rules = {first, ASSUME + REFL - first, TRANS, ASSUME, DEDUCT, REFL, EQMP};
+            int[] hypotheses = {first == ASSUME ? 1 : 0, first == ASSUME ? 0 : 1, 1, 1, 0, 0, 0};
+            for (int p = 0; p < 7; p++) {
+                check.due("RULE of THEOREM " + p, x.theorem(p, 2), rules[p]);
+                check.due("HYPOTHESES of THEOREM " + p, x.theorem(p, 1), hypotheses[p]);
+            }
+            check.due("that of TRANS", x.hypothesis(2, 0), 0);
+        }
     }
 
     private static void closesExact() {

@@ -186,12 +186,16 @@ public final class RuleEdgeTest extends Edges {
             refuses("rule: TRANS UNFIT, the second is no EQ", before, rule(TRANS, 0, p, 0), UNFIT);
             refuses("rule: TRANS UNFIT, both are no EQ", before, rule(TRANS, p, p, 0), UNFIT);
         }
+        Run likeEq = assumes(row(APP, 2, 0), row(EQ, 0, 1), row(EQ, 2, 2));
+        refuses("rule: TRANS UNFIT, the first is APP with that PART", likeEq, rule(TRANS, 0, 1, 0), UNFIT);
+        refuses("rule: TRANS UNFIT, the second is APP with that PART", likeEq, rule(TRANS, 2, 0, 0), UNFIT);
         refuses("rule: TRANS UNFIT, ALIKE but for TYPES", otherTypes(), rule(TRANS, 0, 1, 0), UNFIT);
         takes("rule: TRANS of these TYPES", otherTypes(), rule(TRANS, 0, 0, 0), 2);
     }
 
     private static void combUnfit() {
-        Run before = assumes(row(EQ, 3, 3), row(EQ, 4, 5), row(EQ, 2, 2), row(EQ, 0, 1), row(0), row(EQ, L, 3, L, 3), row(EQ, L + 7, APP, 7, 4, L + 7, 5));
+        Run before = assumes(row(EQ, 3, 3), row(EQ, 4, 5), row(EQ, 2, 2), row(EQ, 0, 1), row(0), row(EQ, L, 3, L, 3),
+            row(EQ, L + 7, APP, 7, 4, L + 7, 5));
         takes("rule: COMB on THINGS", before, rule(COMB, 0, 1, 0), 7);
         takes("rule: COMB on TRUTHS", before, rule(COMB, 2, 3, 0), 7);
         takes("rule: COMB to FUNCTIONS", before, rule(COMB, 5, 1, 0), 7);
@@ -204,6 +208,10 @@ public final class RuleEdgeTest extends Edges {
         refuses("rule: COMB UNFIT, TRUTHS are no FUNCTIONS", before, rule(COMB, 3, 3, 0), UNFIT);
         refuses("rule: COMB UNFIT, the first is no EQ", before, rule(COMB, 4, 1, 0), UNFIT);
         refuses("rule: COMB UNFIT, the second is no EQ", before, rule(COMB, 2, 4, 0), UNFIT);
+        Run likeEq = assumes(row(APP, 2, 0), row(EQ, 0, 1), row(EQ, L + 7, APP, 7, 0, L + 7, 0));
+        refuses("rule: COMB UNFIT, the first is APP with that PART", likeEq, rule(COMB, 0, 1, 0), UNFIT);
+        refuses("rule: COMB UNFIT, the second is APP with that PART", likeEq, rule(COMB, 2, 0, 0), UNFIT);
+        takes("rule: COMB of EQ with that PART", after(likeEq, x -> x.rule(ASSUME, read(x, EQ, 2, 2), 0, 0)), rule(COMB, 2, 3, 0), 4);
     }
 
     private static void absUnfit() {
@@ -381,8 +389,8 @@ public final class RuleEdgeTest extends Edges {
         refuses("rule: COMB BIG, 7 HYPOTHESES", more, rule(COMB, 12, 11, 0), BIG);
         six("INST", after(chain(6), reads(row(APP, 3, 4))), INST, 10, 0);
         takes("rule: INST, 6 HYPOTHESES", after(chain(6), reads(row(APP, 3, 4))), x -> x.theorem(x.rule(INST, 10, 7, x.count(0) - 1), 1), 6);
-        // Twelve in all, six of each.
-        Run twelve = after(chain(6), does(rule(INST, 10, 4, 0)), x -> {
+        // APP 3 7 for 5 or for 6: few of the six of each are ALIKE.
+        Run twelve = after(chain(6), x -> {
             int t = read(x, APP, 3, 7);
             x.rule(INST, 10, 5, t);
             x.rule(INST, 10, 6, t);
@@ -398,7 +406,7 @@ public final class RuleEdgeTest extends Edges {
         }
         Run merging = after(assumes(row(EQ, 4, 5), row(EQ, 5, 6)), does(rule(TRANS, 0, 1, 0)), reads(row(5)));
         takes("rule: INST, HYPOTHESES stay two", merging, x -> x.theorem(x.rule(INST, 2, 4, 3), 1), 2);
-        Run all = after(assumes(row(EQ, 4, 5), row(EQ, 5, 6)), does(rule(TRANS, 0, 1, 0), rule(INST, 2, 4, 0)), x -> {
+        Run all = after(assumes(row(EQ, 4, 5), row(EQ, 5, 6)), does(rule(TRANS, 0, 1, 0)), x -> {
             int five = read(x, 5);
             x.rule(INST, x.rule(INST, 2, 4, five), 6, five);
         });

@@ -253,7 +253,8 @@ public final class TermEdgeTest extends Edges {
             {EQ, 4, 0}, {EQ, 2, 3}, {EQ, 3, 4}, {EQ, EQ, 4, 4, 4}, {L, APP, 0, 0}, {L + 4, EQ, 4, L, 4},
             {L + 4, EQ, APP, 2, 4, APP, 3, 4}, {L + 4, L + 5, EQ, APP, 4, 5, APP, 5, 4}, {L + 4, EQ, APP, 4, 0, APP, 4, 5},
             {APP, L + 4, APP, 2, 4, 5}, {EQ, L + 4, 4, L + 4, L + 5, 4}, {APP, L + 4, APP, 4, 4, L + 4, APP, 4, 4},
-            {APP, 3, L + 4, 4}, {EQ, 0, L + 4, 4}};
+            {APP, 3, L + 4, 4}, {EQ, 0, L + 4, 4}, {EQ, 4, 3}, {EQ, 0, 2}, {EQ, 4, L + 4, 4}, {EQ, L + 4, 4, 4}, {EQ, L + 4, 4, 0},
+            {L + 4, L + 5, EQ, EQ, 4, 0, EQ, 4, APP, 5, APP, 4, 0}, {EQ, APP, 3, 4, 3}, {EQ, 3, APP, 3, 4}};
         for (int[] draft : wrong) {
             refuses("read: KIND of " + java.util.Arrays.toString(draft), after(Edges::names, writes(draft)), Desk::read, KIND);
         }
