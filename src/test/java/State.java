@@ -1,7 +1,7 @@
 import java.util.function.ToIntFunction;
 
 /**
- * All that can be seen of a desk with a run of calls behind it, as a text: every look, and what some ways to go on would
+ * What can be seen of a desk with a run of calls behind it, as a text: every look, and what some ways to go on would
  * answer (for the draft, the TYPES of NAMES and the TACTICS that undo takes back, no look tells). Each way starts from a
  * desk of its own with the same run behind it, and a desk that has no calls left is followed by another such one.
  */
